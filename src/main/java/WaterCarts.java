@@ -22,7 +22,6 @@ public final class WaterCarts {
     private static final int MOST_SIGNS = 600;
     private static final int MOST_LINES = 16;
     private static final int MOST_LITRES = 99;
-    private static final int MOST_LETTERS = 8;
     private static final int MOST_DIGITS = 4;
     private static final int DEEPEST = 5;
     private static final int STACK = 32;
@@ -31,7 +30,7 @@ public final class WaterCarts {
     private static final int FAULT_LITRES = 4;
     private static final int FAULT_LIMIT = 5;
 
-    // Tokens are below 0, so that one row of code can hold them beside its numbers.
+    // Tokens are below 0, so that one row can hold them beside numbers.
     // The first six are also the places of the facts: DAY is fact 0, DRY is fact 5.
     private static final int DAY = -1;
     private static final int PEOPLE = -2;
@@ -51,9 +50,8 @@ public final class WaterCarts {
     private static final int OPEN = -15;
     private static final int CLOSE = -16;
     private static final int SEMICOLON = -17;
-    private static final int NUMBER = -18;
-    private static final int END = -19;
-    private static final int BAD = -20;
+    private static final int END = -18;
+    private static final int BAD = -19;
 
     private final Village[] villages = new Village[MOST_VILLAGES];
     private final Spring[] springs = new Spring[MOST_SPRINGS];
@@ -609,7 +607,7 @@ public final class WaterCarts {
             search(0, 0, 0);
         }
 
-        int leastTrip(int place) {
+        private int leastTrip(int place) {
             int least = NONE;
             for (int tanker = 0; tanker < tankerCount; tanker++) {
                 int miles = trips[place][tanker];
@@ -621,16 +619,16 @@ public final class WaterCarts {
         }
 
         /** A trip that leaves its village wanting saves nobody and costs miles: no best plan has one. */
-        boolean serves(int tanker, int place) {
+        private boolean serves(int tanker, int place) {
             return trips[place][tanker] <= milesLeft[tanker] && load(tanker, place) >= lacks[place];
         }
 
-        int load(int tanker, int place) {
+        private int load(int tanker, int place) {
             return Math.min(Math.min(holds[tanker], pools[springOf[tanker]]), rooms[place]);
         }
 
         /** Goes through the plans in the order of their tankers, so the first of equal ones is kept. */
-        void search(int place, int dry, int miles) {
+        private void search(int place, int dry, int miles) {
             int dryAtLeast = dry + lost[place];
             if (dryAtLeast > bestDry
                 || dryAtLeast == bestDry && miles + leastMiles[place] >= bestMiles) {
@@ -649,7 +647,7 @@ public final class WaterCarts {
             search(place + 1, dry + 1, miles);
         }
 
-        void tryTrip(int tanker, int place, int dry, int miles) {
+        private void tryTrip(int tanker, int place, int dry, int miles) {
             int trip = trips[place][tanker];
             int litres = load(tanker, place);
             chosen[place] = tanker;
@@ -660,7 +658,7 @@ public final class WaterCarts {
             pools[springOf[tanker]] += litres;
         }
 
-        void keep(int dry, int miles) {
+        private void keep(int dry, int miles) {
             bestDry = dry;
             bestMiles = miles;
             for (int i = 0; i < needyCount; i++) {
@@ -669,14 +667,14 @@ public final class WaterCarts {
         }
     }
 
-    /** The signs fed, and the token that is in hand when they are read. */
+    /** The signs fed and, once they have been scanned, the tokens in them. */
     private static final class Tape {
         final char[] signs = new char[MOST_SIGNS];
+        // One more than signs, for the end. A number stands here as it is, all else as its token.
+        final int[] tokens = new int[MOST_SIGNS + 1];
+        final int[] places = new int[MOST_SIGNS + 1];
         int length;
-        int next;
-        int place;
-        int token;
-        int number;
+        int tokenCount;
 
         void addEight(long bytes) {
             for (int shift = 56; shift >= 0; shift -= 8) {
@@ -684,91 +682,104 @@ public final class WaterCarts {
             }
         }
 
-        void addSign(int sign) {
+        private void addSign(int sign) {
             if ((sign == 10 || within(sign, 32, 126)) && length < MOST_SIGNS) {
                 signs[length] = (char) sign;
                 length++;
             }
         }
 
-        void rewind() {
-            next = 0;
-            advance();
-        }
-
-        void advance() {
-            while (next < length && isBlank(signs[next])) {
-                next++;
+        /** Finds the tokens, the end as the last of them, and takes the signs away. */
+        void scan() {
+            tokenCount = 0;
+            int at = 0;
+            while (at < length) {
+                int end = endOfRun(at);
+                if (!isBlank(signs[at])) {
+                    addToken(tokenOf(at, end), at);
+                }
+                at = Math.max(at + 1, end);
             }
-            place = next;
-            if (next >= length) {
-                token = END;
-            } else if (isLetter(signs[next])) {
-                takeWord();
-            } else if (isDigit(signs[next])) {
-                takeNumber();
-            } else {
-                token = signToken(signs[next]);
-                next++;
+            addToken(END, length);
+            length = 0;
+        }
+
+        private void addToken(int token, int place) {
+            if (tokenCount <= MOST_SIGNS) {
+                tokens[tokenCount] = token;
+                places[tokenCount] = place;
+                tokenCount++;
             }
         }
 
-        void takeWord() {
-            while (next < length && isLetter(signs[next])) {
-                next++;
+        /** Letters and digits go together with their like; every other sign stands alone. */
+        private int endOfRun(int from) {
+            boolean letters = isLetter(signs[from]);
+            boolean digits = isDigit(signs[from]);
+            int end = from + 1;
+            while (end < length && (letters && isLetter(signs[end]) || digits && isDigit(signs[end]))) {
+                end++;
             }
-            token = next - place > MOST_LETTERS ? BAD : wordToken();
+            return end;
         }
 
-        void takeNumber() {
-            number = 0;
-            while (next < length && isDigit(signs[next])) {
-                number = number * 10 + (signs[next] - '0');
-                next++;
+        private int tokenOf(int from, int end) {
+            if (isLetter(signs[from])) {
+                return wordToken(from, end);
             }
-            token = next - place > MOST_DIGITS ? BAD : NUMBER;
+            return isDigit(signs[from]) ? numberToken(from, end) : signToken(signs[from]);
         }
 
-        /** A word that the orders do not know stands nowhere, so it is as bad as a sign that is none. */
-        int wordToken() {
-            if (reads("head")) return HEAD;
-            if (reads("beast")) return BEAST;
-            if (reads("when")) return WHEN;
-            if (reads("and")) return AND;
-            if (reads("day")) return DAY;
-            if (reads("people")) return PEOPLE;
-            if (reads("beasts")) return BEASTS;
-            if (reads("days")) return DAYS;
-            if (reads("full")) return FULL;
-            return reads("dry") ? DRY : BAD;
+        private int numberToken(int from, int end) {
+            if (end - from > MOST_DIGITS) {
+                return BAD;
+            }
+            int number = 0;
+            for (int i = from; i < end; i++) {
+                number = number * 10 + (signs[i] - '0');
+            }
+            return number;
         }
 
-        boolean reads(String word) {
-            if (next - place != word.length()) {
+        /** A word that the orders do not know stands nowhere, so it is as bad as one of more than 8 letters. */
+        private int wordToken(int from, int end) {
+            if (reads("head", from, end)) return HEAD;
+            if (reads("beast", from, end)) return BEAST;
+            if (reads("when", from, end)) return WHEN;
+            if (reads("and", from, end)) return AND;
+            if (reads("day", from, end)) return DAY;
+            if (reads("people", from, end)) return PEOPLE;
+            if (reads("beasts", from, end)) return BEASTS;
+            if (reads("days", from, end)) return DAYS;
+            if (reads("full", from, end)) return FULL;
+            return reads("dry", from, end) ? DRY : BAD;
+        }
+
+        private boolean reads(String word, int from, int end) {
+            if (end - from != word.length()) {
                 return false;
             }
-            for (int i = 0; i < word.length(); i++) {
-                int at = place + i;
-                if (at >= length || signs[at] != word.charAt(i)) {
+            for (int i = from; i < end; i++) {
+                if (signs[i] != word.charAt(i - from)) {
                     return false;
                 }
             }
             return true;
         }
 
-        static boolean isBlank(char sign) {
+        private static boolean isBlank(char sign) {
             return sign == 10 || sign == 32;
         }
 
-        static boolean isLetter(char sign) {
+        private static boolean isLetter(char sign) {
             return sign >= 'a' && sign <= 'z';
         }
 
-        static boolean isDigit(char sign) {
+        private static boolean isDigit(char sign) {
             return sign >= '0' && sign <= '9';
         }
 
-        static int signToken(char sign) {
+        private static int signToken(char sign) {
             switch (sign) {
                 case '(': return OPEN;
                 case ')': return CLOSE;
@@ -786,18 +797,19 @@ public final class WaterCarts {
     private static final class Reader {
         final Tape tape = new Tape();
         Orders standing = new Orders();
-        Orders draft = new Orders();
-        int fault;
+        private Orders draft = new Orders();
+        private int at;
+        private int fault;
 
         int readText() {
-            fault = 0;
+            tape.scan();
             draft.clear();
-            tape.rewind();
+            at = 0;
+            fault = 0;
             boolean right = true;
-            for (int line = 0; line <= MOST_LINES && right && tape.token != END; line++) {
+            for (int line = 0; line <= MOST_LINES && right && token() != END; line++) {
                 right = readLine();
             }
-            tape.length = 0;
             if (right) {
                 // What has a fault is no text, so only one without takes the place of the old.
                 Orders old = standing;
@@ -807,95 +819,95 @@ public final class WaterCarts {
             return fault;
         }
 
-        boolean readLine() {
-            int kind = tape.token;
+        private int token() {
+            return at < tape.tokenCount ? tape.tokens[at] : END;
+        }
+
+        private boolean readLine() {
+            int kind = token();
             if (kind != HEAD && kind != BEAST) {
                 return wrong(FAULT_TOKEN);
             }
             if (draft.lines >= MOST_LINES) {
                 return wrong(FAULT_LIMIT);
             }
-            tape.advance();
-            if (tape.token != NUMBER) {
+            at++;
+            int litres = token();
+            if (litres < 0) {
                 return wrong(FAULT_TOKEN);
             }
-            if (tape.number > MOST_LITRES) {
+            if (litres > MOST_LITRES) {
                 return wrong(FAULT_LITRES);
             }
-            draft.addLine(kind, tape.number);
-            tape.advance();
+            at++;
+            draft.addLine(kind, litres);
             return take(WHEN) && readTests(1) && take(SEMICOLON);
         }
 
-        boolean readTests(int depth) {
+        private boolean readTests(int depth) {
             boolean right = readTest(depth);
-            for (int i = 0; i < MOST_SIGNS && right && tape.token == AND; i++) {
-                tape.advance();
+            for (int i = 0; i < MOST_SIGNS && right && token() == AND; i++) {
+                at++;
                 right = readTest(depth);
                 draft.addStep(AND);
             }
             return right;
         }
 
-        boolean readTest(int depth) {
+        private boolean readTest(int depth) {
             if (!readSum(depth)) {
                 return false;
             }
-            int sign = tape.token;
+            int sign = token();
             if (sign != LESS && sign != EQUAL) {
                 return true;
             }
-            tape.advance();
+            at++;
             boolean right = readSum(depth);
             draft.addStep(sign);
             return right;
         }
 
-        boolean readSum(int depth) {
+        private boolean readSum(int depth) {
             boolean right = readPart(depth);
-            for (int i = 0; i < MOST_SIGNS && right && isPlusOrMinus(tape.token); i++) {
-                int sign = tape.token;
-                tape.advance();
+            for (int i = 0; i < MOST_SIGNS && right && (token() == PLUS || token() == MINUS); i++) {
+                int sign = token();
+                at++;
                 right = readPart(depth);
                 draft.addStep(sign);
             }
             return right;
         }
 
-        boolean readPart(int depth) {
-            int token = tape.token;
-            if (token != NUMBER && token != OPEN && !isFact(token)) {
+        private boolean readPart(int depth) {
+            int part = token();
+            // Numbers and the six facts are all from DRY upwards.
+            if (part < DRY && part != OPEN) {
                 return wrong(FAULT_TOKEN);
             }
             if (depth > DEEPEST) {
                 return wrong(FAULT_LIMIT);
             }
-            if (token != OPEN) {
-                draft.addStep(token == NUMBER ? tape.number : token);
+            at++;
+            if (part == OPEN) {
+                return readTests(depth + 1) && take(CLOSE);
             }
-            tape.advance();
-            return token != OPEN || readTests(depth + 1) && take(CLOSE);
-        }
-
-        boolean take(int token) {
-            if (tape.token != token) {
-                return wrong(FAULT_TOKEN);
-            }
-            tape.advance();
+            draft.addStep(part);
             return true;
         }
 
-        boolean wrong(int kind) {
-            fault = kind + 16 * tape.place;
+        private boolean take(int token) {
+            if (token() != token) {
+                return wrong(FAULT_TOKEN);
+            }
+            at++;
+            return true;
+        }
+
+        private boolean wrong(int kind) {
+            int place = at < tape.tokenCount ? tape.places[at] : 0;
+            fault = kind + 16 * place;
             return false;
-        }
-
-        static boolean isPlusOrMinus(int token) {
-            return token == PLUS || token == MINUS;
-        }
-
-        static boolean isFact(int token) {
-            return within(token, DRY, DAY);
         }
     }
 
@@ -940,7 +952,7 @@ public final class WaterCarts {
             return usual;
         }
 
-        int valueOf(int line, int[] facts) {
+        private int valueOf(int line, int[] facts) {
             int end = line + 1 < lines ? starts[line + 1] : used;
             height = 0;
             for (int i = starts[line]; i < end; i++) {
@@ -959,7 +971,7 @@ public final class WaterCarts {
             return pop();
         }
 
-        static int joined(int sign, int left, int right) {
+        private static int joined(int sign, int left, int right) {
             switch (sign) {
                 case PLUS: return left + right;
                 case MINUS: return left - right;
@@ -969,14 +981,14 @@ public final class WaterCarts {
             }
         }
 
-        void push(int value) {
+        private void push(int value) {
             if (height < STACK) {
                 stack[height] = value;
                 height++;
             }
         }
 
-        int pop() {
+        private int pop() {
             if (height <= 0) {
                 return 0;
             }

@@ -34,6 +34,7 @@ public final class PromisesTest {
         promise20Flows();
         promise21Goes();
         promise22Count();
+        fullHouse();
         Check.end();
     }
 
@@ -201,6 +202,8 @@ public final class PromisesTest {
         due("6: not beyond 600", x.feed(0x3b3b3b3b3b3b3b3bL, 0x3b3b3b3b3b3b3b3bL, 0), 600);
         due("6: full", x.feed(0x3b3b3b3b3b3b3b3bL, 0, 0), 600);
         due("6: the text before stays until it is read", x.want(0), 7);
+        due("6: 600 tokens are read", x.text(), 1);
+        due("6: and taken", x.count(9), 0);
     }
 
     private static void promise07Text() {
@@ -834,6 +837,46 @@ public final class PromisesTest {
             due("21: wild tanker", x.goes(wild, 0), NONE);
             due("21: wild what", x.goes(0, wild), NONE);
         }
+    }
+
+    /** As much of all as may be: every row is used to its end. */
+    private static void fullHouse() {
+        WaterCarts x = new WaterCarts();
+        for (int i = 0; i < 12; i++) {
+            x.village(1, 0, 1 + 100 * i, 1);
+        }
+        for (int i = 0; i < 4; i++) {
+            x.spring(0, 100, 0);
+        }
+        for (int i = 0; i < 4; i++) {
+            x.tanker(3 - i, 9, 40);
+        }
+        for (int i = 0; i < 10; i++) {
+            x.bore(i, 1, 1);
+        }
+        due("all: full of a tank of one", Check.text(x, "head 1 when full = 100;"), 0);
+        due("all: want 0", x.want(0), 1);
+        due("all: want 1", x.want(1), 10);
+        due("all: needy", x.plan(0), 6);
+        due("all: served", x.plan(1), 0);
+        due("all: miles", x.plan(2), 120);
+        int[] tankers = {NONE, 0, 0, 1, 1, 2, 2, NONE};
+        for (int i = 0; i < tankers.length; i++) {
+            due("all: tanker of " + i, x.planned(i), tankers[i]);
+        }
+        due("all: way of the last", x.way(3, 11, 200), true);
+        x.days(1);
+        due("all: dry", x.count(4), 5);
+        due("all: given", x.count(5), 1 + 6 * 10 + 5);
+        due("all: pool of the last", x.flows(3, 1), 82);
+        due("all: pool of the first", x.flows(0, 1), 100);
+        due("all: share of one", x.share(0), 100);
+        due("all: drill the first", x.drill(0, 1), true);
+        due("all: drill the last", x.drill(9, 1), true);
+        due("all: best", x.best(9999), 510);
+        x.days(30);
+        due("all: now", x.count(3), 31);
+        due("all: dry then", look(x, 11, 6), 31);
     }
 
     private static void promise22Count() {
