@@ -155,7 +155,7 @@ public final class WaterCarts {
         }
         makePlan();
         if (what == 0) {
-            return planner.needyCount;
+            return planner.needyInAll;
         }
         return what == 1 ? planner.bestDry : planner.bestMiles;
     }
@@ -354,17 +354,22 @@ public final class WaterCarts {
         for (int i = 0; i < tankerCount; i++) {
             planner.addTanker(tankers[i].spring, tankers[i].holds, tankers[i].miles);
         }
-        for (int i = 0; i < villageCount && planner.needyCount < MOST_NEEDY; i++) {
+        for (int i = 0; i < villageCount; i++) {
             int lack = wantOf(villages[i]) - villages[i].in;
             if (lack > 0) {
-                planner.addNeedy(i, lack, villages[i].room());
-                addTrips(i);
+                addNeedy(i, lack);
             }
         }
         planner.findBest();
     }
 
-    private void addTrips(int village) {
+    /** All the needy are counted, but only the first of them may get a trip. */
+    private void addNeedy(int village, int lack) {
+        planner.needyInAll++;
+        if (planner.needyInAll > MOST_NEEDY) {
+            return;
+        }
+        planner.addPlace(village, lack, villages[village].room());
         for (int i = 0; i < tankerCount; i++) {
             if (isSpring(tankers[i].spring)) {
                 planner.setTrip(i, 2 * springs[tankers[i].spring].ways[village]);
@@ -560,12 +565,15 @@ public final class WaterCarts {
         final int[] lost = new int[MOST_NEEDY + 1];
         final int[] leastMiles = new int[MOST_NEEDY + 1];
         int tankerCount;
+        int needyInAll;
+        // Of the needy, those that may get a trip.
         int needyCount;
         int bestDry;
         int bestMiles;
 
         void clear() {
             tankerCount = 0;
+            needyInAll = 0;
             needyCount = 0;
         }
 
@@ -578,7 +586,7 @@ public final class WaterCarts {
             }
         }
 
-        void addNeedy(int village, int lack, int room) {
+        void addPlace(int village, int lack, int room) {
             if (needyCount < MOST_NEEDY) {
                 needy[needyCount] = village;
                 lacks[needyCount] = lack;

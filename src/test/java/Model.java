@@ -238,6 +238,7 @@ final class Model {
 
     private static final class Plan {
         final List<Integer> needy = new ArrayList<>();
+        int needyInAll;
         int[] tankers = new int[0];
         int dry = Integer.MAX_VALUE;
         int miles;
@@ -246,9 +247,11 @@ final class Model {
     private Plan bestPlan() {
         Plan plan = new Plan();
         List<Integer> wants = new ArrayList<>();
-        for (int i = 0; i < villages.size() && plan.needy.size() < 6; i++) {
+        for (int i = 0; i < villages.size(); i++) {
             int want = want(i);
-            if (villages.get(i).in < want) {
+            if (villages.get(i).in >= want) continue;
+            plan.needyInAll++;
+            if (plan.needy.size() < 6) {
                 plan.needy.add(i);
                 wants.add(want);
             }
@@ -298,7 +301,7 @@ final class Model {
     int plan(int what) {
         if (!in(what, 0, 2)) return -1;
         Plan plan = bestPlan();
-        return what == 0 ? plan.needy.size() : what == 1 ? plan.dry : plan.miles;
+        return what == 0 ? plan.needyInAll : what == 1 ? plan.dry : plan.miles;
     }
 
     int planned(int village) {

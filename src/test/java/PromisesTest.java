@@ -405,14 +405,21 @@ public final class PromisesTest {
         }
         x.spring(0, 100000, 0);
         x.tanker(0, 1000, 999);
-        due("9: the first 6 are the needy", x.plan(0), 6);
-        due("9: all of the 6 are served", x.plan(1), 0);
+        due("9: all the needy are counted", x.plan(0), 8);
+        due("9: all of the first 6 are served", x.plan(1), 0);
         due("9: six trips", x.plan(2), 120);
         due("9: the sixth", x.planned(8), 0);
         due("9: not the seventh", x.planned(10), NONE);
         x.days(1);
         due("9: two stay dry", x.count(4), 2);
         due("9: one tanker makes all the trips", x.goes(0, 0), 120);
+        WaterCarts y = new WaterCarts();
+        for (int i = 0; i < 12; i++) {
+            y.village(1, 0, 10, 0);
+            due("9: needy up to " + i, y.plan(0), i + 1);
+            due("9: of the first 6 without a tanker", y.plan(1), Math.min(6, i + 1));
+            due("9: no miles without a tanker", y.plan(2), 0);
+        }
     }
 
     private static void promise10Planned() {
@@ -857,7 +864,7 @@ public final class PromisesTest {
         due("all: full of a tank of one", Check.text(x, "head 1 when full = 100;"), 0);
         due("all: want 0", x.want(0), 1);
         due("all: want 1", x.want(1), 10);
-        due("all: needy", x.plan(0), 6);
+        due("all: needy", x.plan(0), 11);
         due("all: served", x.plan(1), 0);
         due("all: miles", x.plan(2), 120);
         int[] tankers = {NONE, 0, 0, 1, 1, 2, 2, NONE};
