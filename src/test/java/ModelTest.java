@@ -217,18 +217,12 @@ public final class ModelTest {
     }
 
     private void look(int village, int what) {
-        long got;
         long want;
-        try {
-            got = carts.look(village, what);
-        } catch (NoSuchElementException e) {
-            got = Long.MIN_VALUE;
-        }
         try {
             want = model.look(village, what);
         } catch (NoSuchElementException e) {
-            want = Long.MIN_VALUE;
+            want = Bounds.THROWN;
         }
-        due("look(" + village + ", " + what + ")", got, want);
+        due("look(" + village + ", " + what + ")", Bounds.look(carts, village, what), want);
     }
 }

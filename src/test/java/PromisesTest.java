@@ -1,5 +1,3 @@
-import java.util.NoSuchElementException;
-
 /** Each promise of the document by itself: ordinary inputs, the edges, wrong inputs. */
 public final class PromisesTest {
     private static final int NONE = -1;
@@ -46,13 +44,8 @@ public final class PromisesTest {
         Check.due(what, got, want);
     }
 
-    /** look, with a throw told as Long.MIN_VALUE. */
     private static long look(WaterCarts x, int village, int what) {
-        try {
-            return x.look(village, what);
-        } catch (NoSuchElementException e) {
-            return Long.MIN_VALUE;
-        }
+        return Bounds.look(x, village, what);
     }
 
     private static void promise01NewObject() {
@@ -65,7 +58,7 @@ public final class PromisesTest {
         due("1: plan(2)", x.plan(2), 0);
         due("1: best", x.best(9999), 0);
         due("1: want", x.want(0), NONE);
-        due("1: look", look(x, 0, 0), Long.MIN_VALUE);
+        due("1: look", look(x, 0, 0), Bounds.THROWN);
         due("1: flows", x.flows(0, 0), NONE);
         due("1: goes", x.goes(0, 0), NONE);
         due("1: text of an empty tape", x.text(), 0);
@@ -771,12 +764,12 @@ public final class PromisesTest {
         x.days(1);
         int[] fourth = {10, 5, 310, 10, 200, 0, 0, 2, 1};
         looks(x, "four days", fourth);
-        due("19: what 9", look(x, 0, 9), Long.MIN_VALUE);
-        due("19: what -1", look(x, 0, -1), Long.MIN_VALUE);
-        due("19: village 1", look(x, 1, 0), Long.MIN_VALUE);
+        due("19: what 9", look(x, 0, 9), Bounds.THROWN);
+        due("19: what -1", look(x, 0, -1), Bounds.THROWN);
+        due("19: village 1", look(x, 1, 0), Bounds.THROWN);
         for (int wild : WILD) {
-            due("19: wild village", look(x, wild, 0), Long.MIN_VALUE);
-            due("19: wild what", look(x, 0, wild), Long.MIN_VALUE);
+            due("19: wild village", look(x, wild, 0), Bounds.THROWN);
+            due("19: wild what", look(x, 0, wild), Bounds.THROWN);
         }
     }
 
